@@ -1613,7 +1613,7 @@ public final class NestedChecker {
             size = 0;
             Arrays.fill(present, 0);
             put(a.starts, Relations.identity(a.states));
-            for (int k = 0; k < size && stands(); k++) {
+            for (int k = 0; k < MOST_SUMMARIES && k < size && stands(); k++) {
                 putSteps(s, a, k);
                 noteOvers(s, a, k);
                 for (int j = 0; j <= k && stands(); j++) {
@@ -1897,7 +1897,8 @@ public final class NestedChecker {
                 if (!blocks.closes(block, length)) {
                     continue;
                 }
-                for (int j = 0; j < words.size; j++) {
+                int end = words.size;
+                for (int j = 0; j < end; j++) {
                     if (words.isClosed(words.items[j])) {
                         join(words.items[j], block);
                     }
@@ -1905,8 +1906,10 @@ public final class NestedChecker {
             }
         }
 
+        // What joins and wraps bring is longer: it waits for a later round.
         private void closeWords(int length) {
-            for (int i = 0; i < words.size; i++) {
+            int end = words.size;
+            for (int i = 0; i < end; i++) {
                 int word = words.items[i];
                 if (!words.closes(word, length)) {
                     continue;
@@ -1965,7 +1968,8 @@ public final class NestedChecker {
                 if (length == NONE) {
                     break;
                 }
-                for (int i = 0; i < nodes.size; i++) {
+                int end = nodes.size;
+                for (int i = 0; i < end; i++) {
                     int node = nodes.items[i];
                     if (nodes.closes(node, length)) {
                         followBlocks(node);

@@ -1,7 +1,10 @@
+import java.util.ArrayList;
 import java.util.Arrays;
+import java.util.HashSet;
 import java.util.List;
 import java.util.Map;
 import java.util.Random;
+import java.util.Set;
 
 /** Checkers drawn with fixed seeds, every question asked of the class and of the plain terms. */
 public final class NestedCheckerAgainstPlain {
@@ -23,6 +26,7 @@ public final class NestedCheckerAgainstPlain {
             askTwo(at, x, plain);
             askWords(at, x, plain);
             askMonitor(at, x, plain);
+            askMonitorWhileRulesChange(at, plain);
             askChanges(at, plain);
         }
         Due.end("NestedCheckerAgainstPlain");
@@ -307,19 +311,80 @@ public final class NestedCheckerAgainstPlain {
         }
     }
 
+    // A STACK of SUMMARIES as they were, RULES as they are.
+    private record Seen(Plain.Summary now, List<Plain.Summary> below, List<Integer> calls) {
+        static Seen go(Plain plain, Plain.Auto a, Seen seen, int letter) {
+            List<Plain.Summary> below = new ArrayList<>(seen.below);
+            List<Integer> calls = new ArrayList<>(seen.calls);
+            if (plain.isCall(letter)) {
+                below.add(seen.now);
+                calls.add(letter);
+            } else if (plain.isReturn(letter) && !below.isEmpty()) {
+                int last = below.size() - 1;
+                return new Seen(plain.back(a, seen.now, letter, below.remove(last), calls.remove(last)), below, calls);
+            }
+            return new Seen(plain.by(a, seen.now, letter), below, calls);
+        }
+    }
+
+    private static void askMonitorWhileRulesChange(String at, Plain plain) {
+        NestedChecker x = new NestedChecker();
+        Due.tell(x, plain.text());
+        Plain changed = copyOf(plain);
+        int a = draw.nextInt(plain.autos.size());
+        Seen seen = new Seen(plain.first(plain.autos.get(a)), List.of(), List.of());
+        x.watch(a);
+        for (int i = 0; i < 8 && plain.letters() > 0; i++) {
+            if (draw.nextInt(2) == 0) {
+                change(x, changed);
+            }
+            Plain.Auto p = changed.autos.get(a);
+            askLost(at, x, changed, p, seen);
+            int l = draw.nextInt(plain.letters());
+            seen = Seen.go(changed, p, seen, l);
+            Due.fine(x, at + "see in change", x.see(l), (seen.now.r() & p.accepts) != 0 ? 1 : 0);
+            Due.is(at + "seen 2 in change", x.seen(2), seen.below.size());
+            Due.is(at + "seen 3 in change", x.seen(3), seen.now.r());
+        }
+    }
+
+    // All that can be seen yet, as long as it isn't too much.
+    private static void askLost(String at, NestedChecker x, Plain plain, Plain.Auto p, Seen seen) {
+        Set<Seen> all = new HashSet<>(Set.of(seen));
+        List<Seen> open = new ArrayList<>(all);
+        boolean lost = true;
+        for (int i = 0; i < open.size() && lost && all.size() < 300; i++) {
+            lost = (open.get(i).now.r() & p.accepts) == 0;
+            for (int l = 0; l < plain.letters(); l++) {
+                Seen next = Seen.go(plain, p, open.get(i), l);
+                if (next.below.size() <= seen.below.size() + 3 && all.add(next)) {
+                    open.add(next);
+                }
+            }
+        }
+        if (!lost || all.size() < 300) {
+            Due.fine(x, at + "doomed in change", x.doomed(), lost ? 1 : 0);
+        }
+    }
+
+    private static Plain copyOf(Plain plain) {
+        Plain copy = new Plain();
+        copy.calls = plain.calls;
+        copy.returns = plain.returns;
+        copy.inners = plain.inners;
+        for (Plain.Auto a : plain.autos) {
+            copy.autos.add(a.copy());
+        }
+        return copy;
+    }
+
     // The answers after changes must be those of a new object that is told the changed CHECKER.
     private static void askChanges(String at, Plain plain) {
         NestedChecker x = new NestedChecker();
         Due.tell(x, plain.text());
         askAll(x, plain.autos.size());
         x.mark();
-        Plain changed = new Plain();
-        changed.calls = plain.calls;
-        changed.returns = plain.returns;
-        changed.inners = plain.inners;
-        for (Plain.Auto a : plain.autos) {
-            changed.autos.add(a.copy());
-        }
+        Plain changed = copyOf(plain);
         for (int i = 0; i < 4; i++) {
             change(x, changed);
             NestedChecker fresh = new NestedChecker();
