@@ -10,6 +10,9 @@ import java.util.Set;
 public final class NestedCheckerAgainstPlain {
     private static final Random draw = new Random(20261118L);
 
+    // Told one CHECKER after the other: nothing may be left of those ahead.
+    private static NestedChecker used = new NestedChecker();
+
     public static void main(String[] args) {
         int many = args.length > 0 ? Integer.parseInt(args[0]) : 400;
         for (int i = 0; i < many; i++) {
@@ -28,6 +31,7 @@ public final class NestedCheckerAgainstPlain {
             askMonitor(at, x, plain);
             askMonitorWhileRulesChange(at, plain);
             askChanges(at, plain);
+            askUsed(at, plain, i);
         }
         Due.end("NestedCheckerAgainstPlain");
     }
@@ -398,6 +402,30 @@ public final class NestedCheckerAgainstPlain {
         NestedChecker fresh = new NestedChecker();
         Due.tell(fresh, plain.text());
         Due.is(at + "after undo", askAll(x, plain.autos.size()), askAll(fresh, plain.autos.size()));
+        changed = copyOf(plain);
+        for (int i = 0; i < 3; i++) {
+            change(x, changed);
+        }
+        fresh = new NestedChecker();
+        if (changed.text().length() <= 900) {
+            Due.tell(fresh, changed.text());
+            Due.is(at + "changed after undo", askAll(x, plain.autos.size()), askAll(fresh, plain.autos.size()));
+        }
+    }
+
+    private static void askUsed(String at, Plain plain, int turn) {
+        if (turn % 4 == 0) {
+            used = new NestedChecker();
+        }
+        if (turn % 4 == 2) {
+            used.mark();
+        }
+        NestedChecker fresh = new NestedChecker();
+        Due.tell(fresh, plain.text());
+        Due.is(at + "told to a used one", Due.tell(used, plain.text()), plain.autos.size());
+        Due.is(at + "of a used one", askAll(used, plain.autos.size()), askAll(fresh, plain.autos.size()));
+        Due.refused(used, at + "watched by a used one", used.seen(0), 6);
+        used.watch(0);
     }
 
     private static void change(NestedChecker x, Plain changed) {

@@ -52,6 +52,7 @@ public final class NestedCheckerPromises {
         partner();
         table();
         tableThatCannotBe();
+        tableOfForty();
         summary();
         next();
         nextBack();
@@ -293,6 +294,24 @@ public final class NestedCheckerPromises {
         Due.fine(x, "10 blanks and none", Due.tell(with(BASE), "call a;ret b  ;\n\nautomaton 3symbols 2;start;accept 0 1 2 ;rule a 00 0002 push 1;"), 1);
         Due.fine(x, "10 tokens side by side", Due.tell(x, "call a;automaton 1symbols 1;start 0;rule a 0 0push 0;"), 1);
         Due.is("10 tokens side by side", x.automaton(0, 4), 1);
+        Due.fine(x, "10 all small letters", Due.tell(x, "call abcdefgh;call ijklmnop;ret qrstuvwx;inner yz;"
+                + "automaton 1 symbols 1;rule yz 0 0;rule ijklmnop 0 0 push 0;"), 1);
+        Due.is("10 all small letters", x.rule(0, 0, 0) * 10 + x.rule(0, 1, 0), 31);
+        nothingIsLeftOfThatAhead();
+    }
+
+    // What was reckoned of a CHECKER, and its RULES, are not those of the next ones.
+    private static void nothingIsLeftOfThatAhead() {
+        NestedChecker x = with(BASE);
+        String[] texts = {"call c;ret r;inner i;automaton 2 symbols 1;", BASE, "inner i;automaton 1 symbols 1;start 0;accept 0;"};
+        int[] tables = {2, 3, 2};
+        int[] shortest = {-1, 2, 0};
+        for (int i = 0; i < 9; i++) {
+            Due.tell(x, texts[i % 3]);
+            Due.is("10 shortest of " + i, x.shortest(0), shortest[i % 3]);
+            Due.is("10 table of " + i, x.table(i % 3 == 1 ? 1 : 0), tables[i % 3]);
+            Due.is("10 count of " + i, x.count(0, 2), i % 3 == 1 ? 1 : 0);
+        }
     }
 
     private static void fault() {
@@ -775,6 +794,20 @@ public final class NestedCheckerPromises {
         Due.is("25 it can be again", x.table(0) > 0, true);
     }
 
+    // TABLES of just 40 and of 41 would-be SUMMARIES.
+    private static void tableOfForty() {
+        NestedChecker x = with("call c;ret r;inner i;automaton 3 symbols 2;start 0;accept 2;"
+                + "rule r 0 0 empty;rule i 1 0;rule i 2 1;rule i 0 1;rule r 1 2 empty;"
+                + "automaton 3 symbols 2;start 0;accept 2;"
+                + "rule i 0 0;rule r 1 1 empty;rule i 1 0;rule i 2 1;rule i 0 2;");
+        Due.fine(x, "25 forty", x.table(0), 40);
+        Due.fine(x, "26 the last", x.summary(0, 39, 0), x.summary(0, 39, 0));
+        Due.refused(x, "26 behind the last", x.summary(0, 40, 0), 6);
+        Due.is("37 forty", x.missing(0) >= 0, true);
+        Due.refused(x, "25 forty-one", x.table(1), 7);
+        Due.refused(x, "37 forty-one", x.missing(1), 7);
+    }
+
     private static void summary() {
         NestedChecker x = with(BASE);
         int[][] rows = {{1, 1, 1}, {0, 0, 0}, {0, 1, 0}};
@@ -893,7 +926,11 @@ public final class NestedCheckerPromises {
         Due.refused(x, "31 no way back", x.shortest(0), 6);
         NestedChecker y = with("call c;automaton 2 symbols 1;start 0;accept 1;rule c 0 1 push 0;");
         Due.fine(y, "31 pending is fine", y.shortest(0), 1);
+        sixAreTold();
         moreThanSix();
+        NestedChecker w = with("ret r;automaton 3 symbols 1;start 0;accept 2;rule r 0 1 empty;rule r 1 2 empty;");
+        Due.fine(w, "31 r r, both loose", w.shortest(0), 2);
+        Due.fine(w, "41 r r, both loose", w.count(0, 2), 1);
         // Of several the first by LETTERS, whatever the order of the RULES.
         NestedChecker z = with("call c;call d;ret r;inner i;automaton 2 symbols 1;start 0;accept 1;"
                 + "rule i 0 0;rule r 0 1 empty;rule i 0 1;rule d 0 1 push 0;");
@@ -907,6 +944,39 @@ public final class NestedCheckerPromises {
             "call c;ret r;automaton 3 symbols 2;start 0;accept 2;"
             + "rule c 1 0 push 1;rule r 0 0 pop 1;rule r 1 2 pop 1;rule c 0 1 push 0;rule r 0 1 pop 0;"
             + "automaton 1 symbols 1;start 0;accept 0;rule c 0 0 push 0;rule r 0 0 pop 0;";
+
+    // i c c i r r: 1 on top is POPPED in 1, then 0 in 0.
+    private static void sixAreTold() {
+        NestedChecker x = with("call c;ret r;inner i;automaton 3 symbols 2;start 0;accept 2;"
+                + "rule c 1 0 push 1;rule r 1 0 pop 1;rule c 1 1 push 0;rule r 0 2 pop 0;rule i 0 1;"
+                + "automaton 1 symbols 1;start 0;accept 0;rule c 0 0 push 0;rule r 0 0 pop 0;rule i 0 0;");
+        int[] word = {2, 0, 0, 2, 1, 1};
+        Due.fine(x, "31 six", x.shortest(0), 6);
+        Due.fine(x, "33 six", x.both(0, 1), 6);
+        Due.refused(x, "35 none", x.parting(0, 1), 6);
+        for (int k = 0; k < 6; k++) {
+            Due.fine(x, "32 six", x.shortestAt(0, k), word[k]);
+            Due.fine(x, "34 six", x.bothAt(1, 0, k), word[k]);
+        }
+        x.accept(1, 0, false);
+        for (int k = 0; k < 6; k++) {
+            Due.fine(x, "36 six", x.partingAt(0, 1, k), word[k]);
+        }
+        // c r c r r: taken unless one more RETURN behind the second CALL finds what it can't POP.
+        NestedChecker y = with("call c;ret r;automaton 3 symbols 2;start 0;accept 0 1;rule r 2 2 pop 0;rule r 0 0 empty;"
+                + "rule c 0 2 push 0;rule r 2 0 pop 1;rule r 2 0 pop 0;rule r 2 1 pop 1;rule c 0 0 push 1;");
+        Due.fine(y, "37 six", y.missing(0), 6);
+        for (int n = 0; n < 6; n++) {
+            Due.fine(y, "37 all of five and fewer", y.count(0, n), 1 << n);
+        }
+        int left = 64 - y.count(0, 6);
+        y.tray(0, 0, 6);
+        for (int k = 0; k < 6; k++) {
+            y.write(0, k, y.missingAt(0, k));
+        }
+        Due.fine(y, "38 the word is not taken", y.takes(0, 0, 6), 0);
+        Due.is("38 there is one", left > 0, true);
+    }
 
     private static void moreThanSix() {
         NestedChecker x = with(SEVEN);
@@ -1255,6 +1325,46 @@ public final class NestedCheckerPromises {
         y.see(0);
         Due.fine(y, "49 no more", y.doomed(), 1);
         thirtyPending();
+        savedByTwoReturns();
+    }
+
+    // Both RETURNS must come, each with what is below its own CALL.
+    private static void savedByTwoReturns() {
+        NestedChecker y = with("call c;call d;ret r;ret s;automaton 3 symbols 1;start 0;accept 2;"
+                + "rule d 0 0 push 0;rule r 0 1 pop 0;rule r 1 2 pop 0;");
+        y.watch(0);
+        y.see(1);
+        y.see(1);
+        Due.fine(y, "49 r r", y.doomed(), 0);
+        y.see(2);
+        Due.fine(y, "49 r", y.doomed(), 0);
+        y.see(3);
+        Due.fine(y, "49 s", y.doomed(), 1);
+        Due.fine(y, "30 d d r r", y.reaches(0), 7);
+        NestedChecker x = with("call c;call d;ret r;ret s;inner i;automaton 3 symbols 3;start 0;accept 2;"
+                + "rule c 0 0 push 0;rule d 0 1 push 1;rule r 1 0 pop 1;rule s 0 2 pop 0;rule i 0 0;rule d 0 0 push 2;");
+        x.watch(0);
+        x.see(0);
+        x.see(4);
+        x.see(1);
+        Due.fine(x, "49 d in c", x.doomed(), 0);
+        x.mark();
+        x.see(2);
+        Due.fine(x, "49 c is left", x.doomed(), 0);
+        x.see(2);
+        Due.fine(x, "49 another return", x.doomed(), 1);
+        x.watch(0);
+        x.see(1);
+        x.see(0);
+        Due.fine(x, "49 c in d", x.doomed(), 0);
+        x.see(3);
+        Due.fine(x, "49 taken", x.seen(4), 1);
+        x.see(2);
+        Due.fine(x, "49 nothing POPS it", x.doomed(), 1);
+        Due.fine(x, "51 undo", x.undo(), 0);
+        Due.fine(x, "51 the stack is as it was", x.doomed(), 0);
+        Due.fine(x, "51 the stack is as it was", x.see(2), 0);
+        Due.fine(x, "51 the stack is as it was", x.see(3), 1);
     }
 
     // At thirty PENDING nothing more can be seen, but a 31st would be TAKEN.
@@ -1312,6 +1422,29 @@ public final class NestedCheckerPromises {
         Due.fraction(x, "51 the fraction is not taken back", 1, 9);
         Due.refused(x, "51 none", x.undo(), 6);
         Due.fine(x, "51 the monitor goes on", x.see(1), 1);
+        undoAgain();
+    }
+
+    // A MARK behind an undo keeps its own; CALLS can be told on as ever.
+    private static void undoAgain() {
+        NestedChecker x = with(BASE);
+        for (int i = 0; i < 3; i++) {
+            x.mark();
+            Due.fine(x, "51 again", x.add(0, 0, 1, 0, 0), 5);
+            x.drop(0, 0);
+            x.start(0, 1, true);
+            Due.fine(x, "51 again", x.reaches(0), 3);
+            Due.fine(x, "51 again", x.shortest(0), 0);
+            Due.fine(x, "51 again", x.undo(), 0);
+            Due.is("51 again", x.automaton(0, 4), 4);
+            Due.is("51 again", x.automaton(0, 2), 1);
+            Due.fine(x, "51 again", x.shortest(0), 2);
+        }
+        x.start(0, 0, false);
+        x.start(0, 1, true);
+        x.add(0, 0, 1, 0, 0);
+        Due.word(x, 0, 0);
+        Due.fine(x, "51 a call's rule told behind", x.ends(0, 0, 1), 1);
     }
 
     // Whatever is asked of an object without anything, an answer comes.
