@@ -38,7 +38,7 @@ public final class NestedCheckerAgainstPlain {
 
     // ---- drawing
 
-    private static Plain drawChecker() {
+    static Plain drawChecker() {
         Plain plain = new Plain();
         plain.calls = draw.nextInt(3);
         plain.returns = draw.nextInt(3);
