@@ -33,7 +33,20 @@ public final class NestedCheckerAgainstPlain {
             askChanges(at, plain);
             askUsed(at, plain, i);
         }
+        for (int i = 0; i < 2 * many; i++) {
+            askTableOfTwoByTwo(i);
+        }
         Due.end("NestedCheckerAgainstPlain");
+    }
+
+    // Two CALLS and two RETURNS: many ways to go back, each by its own.
+    private static void askTableOfTwoByTwo(int turn) {
+        Plain plain = new Plain();
+        plain.calls = 2;
+        plain.returns = 2;
+        plain.inners = draw.nextInt(2);
+        plain.autos.add(drawAutomaton(plain, 4 + draw.nextInt(7)));
+        askTable("two by two " + turn + " " + plain.text() + " ", new NestedChecker(), plain, 0);
     }
 
     // ---- drawing

@@ -25,6 +25,7 @@ public final class NestedCheckerTermsOfTexts {
         digitsOfNumbers();
         lettersOfNames();
         keysAreNoNames();
+        almostKeysAreNames();
         oneNameOnce();
         twoOfEachSort();
         lettersAheadOfAutomata();
@@ -299,6 +300,23 @@ public final class NestedCheckerTermsOfTexts {
         }
     }
 
+    // Another letter in any place of a key: no PART begins so, and it can be a NAME.
+    private static void almostKeysAreNames() {
+        for (String key : KEYS) {
+            for (int i = 0; i < key.length(); i++) {
+                String almost = key.substring(0, i) + 'z' + key.substring(i + 1);
+                bad(almost + " a;", 2, 0);
+                bad(HEAD + almost + " 0;", 2, H);
+                bad("automaton 1 " + almost + " 1;", 2, 12);
+                bad(HEAD + "rule c 0 0 " + almost + " 0;", 2, H + 11);
+                bad(HEAD + "rule r 0 0 " + almost + " 0;", 2, H + 11);
+                if (key.length() <= 8) {
+                    good("inner " + almost + ";automaton 1 symbols 1;rule " + almost + " 0 0;", 1);
+                }
+            }
+        }
+    }
+
     private static void oneNameOnce() {
         String[] sorts = {"call", "ret", "inner"};
         for (String first : sorts) {
@@ -529,6 +547,11 @@ public final class NestedCheckerTermsOfTexts {
         Due.is("10 none in place of it", x.told(1), 0);
         Due.fine(x, "51 the MARK has the old one", x.undo(), 0);
         Due.fine(x, "51 the MARK has the MONITOR", x.seen(0), 1);
+        for (int i = 0; i < 4; i++) {
+            Due.fine(x, "1 one behind the other", Due.tell(x, HEAD), 1);
+            Due.refused(x, "1 the MONITOR watches none", x.seen(0), 6);
+            x.watch(0);
+        }
     }
 
     private static void faultsAreToldOf() {

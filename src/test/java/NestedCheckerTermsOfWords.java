@@ -18,18 +18,24 @@ public final class NestedCheckerTermsOfWords {
         partnersOfTwenty();
         pendingAndLoose();
         mostRuns();
+        runsByEverySort();
         bitsOfSummaries();
         bitsOfSets();
+        tableInItsOrder();
         fortySummaries();
         nothingChangesByAsking();
         fractionAloneChanges();
         wellToItself();
         shortestOfNone();
         firstOfSeveral();
+        lastOfSeveral();
+        reachesByEverySort();
         thirtyPending();
         manyLettersSeen();
         doomedHoweverManyPending();
+        doomedByEverySort();
         belowAsItWas();
+        belowOfTwo();
         drawsWrapAround();
         drawsOneBehindTheOther();
         threeMarks();
@@ -162,6 +168,29 @@ public final class NestedCheckerTermsOfWords {
         }
     }
 
+    private static void runsOf(NestedChecker x, long many, int... word) {
+        Due.word(x, 0, word);
+        Due.fine(x, "22 " + Arrays.toString(word), x.runs(0, 0, word.length));
+        Due.fraction(x, "22 " + Arrays.toString(word), many, 1);
+    }
+
+    // i goes from 0 to 0 and 1, from 1 to 1 and 2; a RETURN of c goes back by what it PUSHED.
+    private static void runsByEverySort() {
+        NestedChecker x = of("call c;ret r;inner i;inner j;automaton 3 symbols 2;start 0 1;accept 1 2;"
+                + "rule i 0 0;rule i 0 1;rule i 1 1;rule i 1 2;rule c 0 0 push 0;rule c 0 1 push 1;rule c 1 2 push 0;"
+                + "rule r 0 1 empty;rule r 1 2 empty;rule r 1 2 pop 0;rule r 2 1 pop 1;rule r 1 1 pop 1;rule r 2 2 pop 0;");
+        runsOf(x, 1);
+        runsOf(x, 3, 2);
+        runsOf(x, 5, 2, 2);
+        runsOf(x, 0, 3);
+        runsOf(x, 2, 1);
+        runsOf(x, 1, 1, 1);
+        runsOf(x, 2, 0);
+        runsOf(x, 2, 0, 1);
+        runsOf(x, 3, 0, 2, 1);
+        runsOf(x, 3, 2, 0, 2, 1);
+    }
+
     // 1 times 2 to the 3 times p and q; 1 for STATE 0, 2, 4.
     private static void bitsOfSummaries() {
         for (int p = 0; p < 3; p++) {
@@ -191,7 +220,26 @@ public final class NestedCheckerTermsOfWords {
         Due.fine(x, "48 R", x.seen(3), 4);
     }
 
-    // The first one's would be just full, the second one's has one too many.
+    // By LETTERS first, then j from 0 to k, CALLS, RETURNS, k with j below, j with k below: any other
+    // order would give these twelve other numbers.
+    private static void tableInItsOrder() {
+        NestedChecker x = of("call c;call d;ret r;ret s;automaton 2 symbols 2;start 0;accept 1;"
+                + "rule d 0 1 push 1;rule r 1 1 pop 0;rule d 0 1 push 0;rule s 0 0 pop 1;"
+                + "rule c 1 0 push 1;rule c 0 0 push 1;rule r 0 0 pop 0;");
+        int[][] rows = {{1, 17}, {2, 17}, {0, 0}, {1, 9}, {2, 2}, {0, 17}, {0, 2}, {1, 1}, {2, 18}, {0, 1}, {0, 9}, {0, 18}};
+        Due.fine(x, "2 TABLE", x.table(0), rows.length);
+        for (int k = 0; k < rows.length; k++) {
+            Due.fine(x, "2 R of SUMMARY " + k, x.summary(0, k, 0), rows[k][0]);
+            Due.fine(x, "2 S of SUMMARY " + k, x.summary(0, k, 1), rows[k][1]);
+            Due.fine(x, "26 an ACCEPT is in R of " + k, x.summary(0, k, 2), rows[k][0] / 2);
+        }
+        Due.fine(x, "27 by d", x.next(0, 0, 1), 1);
+        Due.fine(x, "27 by a RETURN with nothing below", x.next(0, 0, 2), 2);
+        Due.fine(x, "28 by s with 0 and c below", x.nextBack(0, 0, 3, 0, 0), 3);
+        Due.fine(x, "28 by r with 0 and d below", x.nextBack(0, 0, 2, 0, 1), 4);
+    }
+
+    // The first one's is just full, the second one's would have one too many.
     private static void fortySummaries() {
         NestedChecker x = of("call c;ret r;inner i;automaton 3 symbols 2;start 0;accept 2;"
                 + "rule r 0 0 empty;rule i 1 0;rule i 2 1;rule i 0 1;rule r 1 2 empty;"
@@ -285,6 +333,45 @@ public final class NestedCheckerTermsOfWords {
         Due.is("43 the last is i j", x.lastAt(0, 2, 0) * 10 + x.lastAt(0, 2, 1), 45);
     }
 
+    private static void lastIs(String text, int... word) {
+        NestedChecker x = of(text);
+        for (int k = 0; k < word.length; k++) {
+            Due.fine(x, "43 the last of " + text, x.lastAt(0, word.length, k), word[k]);
+        }
+    }
+
+    private static void lastOfSeveral() {
+        lastIs("call c;call d;automaton 1 symbols 1;start 0;accept 0;rule c 0 0 push 0;rule d 0 0 push 0;", 1, 1, 1, 1, 1, 1);
+        lastIs("ret r;ret s;automaton 1 symbols 1;start 0;accept 0;rule r 0 0 empty;rule s 0 0 empty;", 1, 1, 1, 1, 1, 1);
+        lastIs("call c;ret r;inner i;automaton 1 symbols 1;start 0;accept 0;rule c 0 0 push 0;rule r 0 0 pop 0;", 0, 1, 0, 1, 0, 1);
+        // All within one CALL and its RETURN.
+        String within = "call c;ret r;inner i;automaton 3 symbols 2;start 0;accept 2;"
+                + "rule c 0 1 push 0;rule c 1 1 push 1;rule r 1 1 pop 1;rule r 1 2 pop 0;";
+        lastIs(within, 0, 0, 1, 0, 1, 1);
+        lastIs(within + "rule i 1 1;", 0, 2, 2, 2, 2, 1);
+        lastIs(within + "rule i 2 2;", 0, 1, 2, 2, 2, 2);
+    }
+
+    private static void reachesIs(String rules, int set) {
+        NestedChecker x = of("call c;ret r;inner i;automaton 3 symbols 2;start 0;" + rules);
+        Due.fine(x, "30 by " + rules, x.reaches(0), set);
+    }
+
+    private static void reachesByEverySort() {
+        reachesIs("", 1);
+        reachesIs("rule i 0 1;", 3);
+        reachesIs("rule i 1 2;rule i 0 1;", 7);
+        reachesIs("rule i 1 2;", 1);
+        reachesIs("rule r 0 1 empty;rule i 1 2;", 7);
+        reachesIs("rule r 1 2 empty;rule r 0 1 empty;", 7);
+        reachesIs("rule r 0 1 pop 0;rule r 1 2 pop 0;", 1);
+        reachesIs("rule c 0 1 push 0;rule i 1 2;", 7);
+        reachesIs("rule c 0 1 push 0;rule r 1 2 empty;", 3);
+        reachesIs("rule c 0 1 push 0;rule r 1 2 pop 1;", 3);
+        reachesIs("rule c 0 0 push 0;rule r 0 1 pop 0;rule r 1 2 empty;", 7);
+        reachesIs("rule c 0 0 push 0;rule r 0 1 pop 0;rule c 1 2 push 1;", 7);
+    }
+
     // ---- the MONITOR
 
     private static void thirtyPending() {
@@ -328,6 +415,47 @@ public final class NestedCheckerTermsOfWords {
         Due.fine(x, "49 no more", x.doomed(), 1);
         x.accept(0, 0, true);
         Due.fine(x, "49 TAKEN as it is", x.doomed(), 0);
+    }
+
+    private static void doomedIs(String rules, int doomed, int... word) {
+        NestedChecker x = of("call c;ret r;inner i;automaton 3 symbols 2;start 0;" + rules);
+        x.watch(0);
+        for (int letter : word) {
+            x.see(letter);
+        }
+        Due.fine(x, "49 by " + rules + Arrays.toString(word), x.doomed(), doomed);
+    }
+
+    private static void doomedByEverySort() {
+        doomedIs("", 1);
+        doomedIs("accept 0;", 0);
+        doomedIs("accept 1;rule i 0 1;", 0);
+        doomedIs("accept 1;rule r 0 1 empty;", 0);
+        doomedIs("accept 1;rule c 0 1 push 0;", 0);
+        doomedIs("accept 2;rule c 0 1 push 0;rule i 1 2;", 0, 0);
+        // With something on the STACK no EMPTY RULE goes, behind the RETURN it does.
+        doomedIs("accept 1;rule c 0 0 push 0;rule r 0 1 empty;", 1, 0);
+        doomedIs("accept 1;rule c 0 0 push 0;rule r 0 1 empty;rule r 0 0 pop 0;", 0, 0);
+        // What was 0 ahead of the CALL is 0 again by no RETURN.
+        doomedIs("accept 0;rule c 0 1 push 0;", 1, 0);
+        doomedIs("accept 0;rule c 0 1 push 0;rule r 1 0 pop 1;", 1, 0);
+        doomedIs("accept 0;rule c 0 1 push 0;rule r 1 0 pop 0;", 0, 0);
+        doomedIs("accept 0;rule c 0 1 push 0;rule r 1 0 pop 0;", 1, 0, 2);
+    }
+
+    // What is between two PENDING CALLS counts when both RETURNS come, though its RULE is no more.
+    private static void belowOfTwo() {
+        NestedChecker x = of("call c;call d;ret r;inner i;automaton 3 symbols 2;start 0;accept 0;"
+                + "rule i 1 2;rule c 0 1 push 0;rule d 2 2 push 1;rule r 2 2 pop 1;rule r 2 0 pop 0;");
+        x.watch(0);
+        for (int letter : new int[] {0, 3, 1}) {
+            x.see(letter);
+        }
+        x.drop(0, 0);
+        Due.fine(x, "49 by both RETURNS", x.doomed(), 0);
+        Due.fine(x, "47 by one", x.see(2), 0);
+        Due.fine(x, "49 by the other", x.doomed(), 0);
+        Due.fine(x, "47 by both", x.see(2), 1);
     }
 
     // The SUMMARY below is that of when the CALL was seen, by a RULE that is no more.
