@@ -11,7 +11,7 @@ import java.util.Set;
  * told of lengths and of words that there are none of is exact. There may be too many deeds to go on.
  */
 final class Deeds {
-    private static final int MOST = 90;
+    private static final int MOST = 600;
 
     private final Plain plain;
     private final List<Plain.Auto> autos;

@@ -1,6 +1,8 @@
 import java.util.ArrayList;
 import java.util.Arrays;
+import java.util.HashMap;
 import java.util.List;
+import java.util.Map;
 
 /** The whole face once more, in the document's words and as slow as they are. */
 final class Model {
@@ -141,6 +143,12 @@ final class Model {
             }
         }
         return tape.length();
+    }
+
+    int tell(String text) {
+        tape.setLength(0);
+        tape.append(text);
+        return checker(text.length());
     }
 
     int checker(int n) {
@@ -445,12 +453,18 @@ final class Model {
 
     private static final int UNKNOWN = -1;
 
+    // Those reckoned latest, as they cost the most: for as long as the CHECKER's text is the same.
+    private final Map<String, Deeds> reckoned = new HashMap<>();
+
     private Deeds deeds(int... automata) {
         List<Plain.Auto> of = new ArrayList<>();
         for (int a : automata) {
-            of.add(auto(a));
+            of.add(auto(a).copy());
         }
-        return new Deeds(plain, of);
+        if (reckoned.size() > 6) {
+            reckoned.clear();
+        }
+        return reckoned.computeIfAbsent(Arrays.toString(automata) + plain.text(), key -> new Deeds(plain, of));
     }
 
     int well(int automaton, int state, int other) {
